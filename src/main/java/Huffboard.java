@@ -35,6 +35,7 @@ public final class Huffboard {
     private static final int[] HIGHEST = {1, 1, 2, 1, 1, 2, 1, 1, 1, 99, 5};
 
     private static final char NO_LETTER = 0;
+    private static final long LOW_HALF = 0xFFFFFFFFL;
 
     private final Ground ground;
     private final Laws laws;
@@ -456,13 +457,13 @@ public final class Huffboard {
     public long checksum() {
         long sum = stand.mover;
         for (int field = 0; field < ground.fields; field++) {
-            sum = 31 * sum + stand.codeAt(field);
+            sum = 31 * sum + numberOf(stand.letterAt(field));
         }
         return sum;
     }
 
     public boolean isSound() {
-        return game.isReplayed() && ending.isRight() && areKeysRight();
+        return game.isReplayed() && ending.isRight() && prover.areKeysRight(ending);
     }
 
     // Tests of arguments
@@ -542,33 +543,16 @@ public final class Huffboard {
     }
 
     private int countRefuted() {
-        long south = stand.south;
-        long north = stand.north;
-        long kings = stand.kings;
-        int mover = stand.mover;
+        long sides = stand.sides();
+        long rest = stand.rest();
         int sum = 0;
         for (int i = 0; i < book.claims; i++) {
             book.bring(i, stand);
             int result = ending.resultNow();
             sum += result != Ending.ABSENT && letterOf(result) != book.claimedAt(i) ? 1 : 0;
         }
-        stand.set(south, north, kings, mover);
+        stand.bring(sides, rest);
         return sum;
-    }
-
-    private boolean areKeysRight() {
-        if (ending.resultNow() == Ending.ABSENT) {
-            return true;
-        }
-        for (int moves = 1; moves <= MOST_PROVED; moves++) {
-            int end = prover.listAside();
-            for (int i = 0; i < end; i++) {
-                if (prover.isKey(rules.listed(i), moves, end) != ending.isLostIn(rules.listed(i), moves - 1)) {
-                    return false;
-                }
-            }
-        }
-        return true;
     }
 
     // A move is one long: from, to, the fields of the captured pieces, and whether it crowns, in
@@ -587,7 +571,7 @@ public final class Huffboard {
     }
 
     private static long takenOf(long move) {
-        return move >> 1 & 0xFFFFFFFFL;
+        return move >> 1 & LOW_HALF;
     }
 
     private static boolean isCrowning(long move) {
@@ -602,6 +586,21 @@ public final class Huffboard {
 
     private static boolean has(long fields, int field) {
         return (fields >> field & 1L) != 0;
+    }
+
+    private static int numberOf(char piece) {
+        switch (piece) {
+            case 'm':
+                return 1;
+            case 'k':
+                return 2;
+            case 'M':
+                return 3;
+            case 'K':
+                return 4;
+            default:
+                return 0;
+        }
     }
 
     private static char letterOf(int result) {
@@ -639,6 +638,8 @@ public final class Huffboard {
         private int size;
         private int fields;
         private long all;
+        private long topRow;
+        private long bottomRow;
 
         Ground(int rows) {
             lay(rows);
@@ -648,6 +649,8 @@ public final class Huffboard {
             size = rows;
             fields = rows * rows / 2;
             all = bit(fields) - 1;
+            topRow = firstRows(1);
+            bottomRow = lastRows(1);
             for (int row = 0; row < rows; row++) {
                 for (int column = (row + 1) % 2; column < rows; column += 2) {
                     for (int way = 0; way < WAYS; way++) {
@@ -679,7 +682,7 @@ public final class Huffboard {
         }
 
         long lastRowOf(int side) {
-            return side == 0 ? firstRows(1) : lastRows(1);
+            return side == 0 ? topRow : bottomRow;
         }
     }
 
@@ -687,11 +690,11 @@ public final class Huffboard {
         private final int[] values = {0, 0, 0, 0, 0, 0, 1, 0, 0, 0, 0};
 
         int get(int law) {
-            return read(values, law);
+            return law >= 0 && law < values.length ? values[law] : 0;
         }
 
         boolean holds(int law) {
-            return read(values, law) == 1;
+            return law >= 0 && law < values.length && values[law] == 1;
         }
 
         void set(int law, int value) {
@@ -713,26 +716,36 @@ public final class Huffboard {
             mover = newMover;
         }
 
+        /** The first of the two longs that tell the position: who stands where. */
+        long sides() {
+            return south | north << 32;
+        }
+
+        /** The second one: the kings and who moves. */
+        long rest() {
+            return kings | (long) mover << 32;
+        }
+
+        void bring(long sides, long rest) {
+            set(sides & LOW_HALF, sides >>> 32, rest & LOW_HALF, (int) (rest >>> 32) & 1);
+        }
+
+        boolean isAt(long sides, long rest) {
+            return sides == sides() && rest == rest();
+        }
+
         long of(int side) {
             return side == 0 ? south : north;
         }
 
-        int codeAt(int field) {
+        char letterAt(int field) {
             if (has(south, field)) {
-                return has(kings, field) ? 2 : 1;
+                return has(kings, field) ? 'k' : 'm';
             }
             if (has(north, field)) {
-                return has(kings, field) ? 4 : 3;
+                return has(kings, field) ? 'K' : 'M';
             }
-            return 0;
-        }
-
-        char letterAt(int field) {
-            int code = codeAt(field);
-            if (code < 1 || code > 4) {
-                return '-';
-            }
-            return "mkMK".charAt(code - 1);
+            return '-';
         }
 
         void putLetter(int field, char piece) {
@@ -959,22 +972,15 @@ public final class Huffboard {
 
         private void addSteps() {
             for (int field = 0; field < ground.fields; field++) {
+                boolean isKing = has(stand.kings, field);
+                int reach = isKing && flying ? MOST_ROWS : 1;
                 for (int way = 0; has(own, field) && way < WAYS; way++) {
-                    addSteps(field, way);
+                    int to = isKing || isForward(way) ? ground.next(field, way) : NONE;
+                    for (int i = 0; i < reach && to != NONE && has(vacant, to); i++) {
+                        insert(packed(field, to, 0L, !isKing && has(lastRow, to)));
+                        to = ground.next(to, way);
+                    }
                 }
-            }
-        }
-
-        private void addSteps(int field, int way) {
-            boolean isKing = has(stand.kings, field);
-            if (!isKing && !isForward(way)) {
-                return;
-            }
-            int reach = isKing && flying ? MOST_ROWS : 1;
-            int to = ground.next(field, way);
-            for (int i = 0; i < reach && to != NONE && has(vacant, to); i++) {
-                insert(packed(field, to, 0L, !isKing && has(lastRow, to)));
-                to = ground.next(to, way);
             }
         }
 
@@ -1000,7 +1006,7 @@ public final class Huffboard {
 
         private boolean grow() {
             int length = stack.length * 2;
-            if (length < stack.length || length > MOST_LISTED) {
+            if (length <= stack.length || length > MOST_LISTED) {
                 return false;
             }
             long[] longer = new long[length];
@@ -1085,19 +1091,17 @@ public final class Huffboard {
             if (!laws.holds(MUST_CAPTURE)) {
                 return true;
             }
-            long south = stand.south;
-            long north = stand.north;
-            long kings = stand.kings;
-            int mover = stand.mover;
+            long sides = stand.sides();
+            long rest = stand.rest();
+            stand.mover = 1 - stand.mover;
             stand.remove(field);
-            if (mover == 0) {
-                stand.putLetter(origin, asKing ? 'K' : 'M');
-            } else {
+            if (stand.mover == 0) {
                 stand.putLetter(origin, asKing ? 'k' : 'm');
+            } else {
+                stand.putLetter(origin, asKing ? 'K' : 'M');
             }
-            stand.mover = 1 - mover;
             boolean allowed = !canCapture();
-            stand.set(south, north, kings, mover);
+            stand.bring(sides, rest);
             return allowed;
         }
     }
@@ -1107,13 +1111,11 @@ public final class Huffboard {
         private final Laws laws;
         private final Stand stand;
         private final Rules rules;
-        private final long[] souths = new long[MOST_KEPT + 1];
-        private final long[] norths = new long[MOST_KEPT + 1];
-        private final long[] crowned = new long[MOST_KEPT + 1];
+        private final long[] sides = new long[MOST_KEPT + 1];
+        private final long[] rests = new long[MOST_KEPT + 1];
         private final long[] moved = new long[MOST_KEPT + 1];
         private final int[] calms = new int[MOST_KEPT + 1];
         private final int[] huffed = new int[MOST_KEPT + 1];
-        private int first;
         private int played;
 
         Game(Laws theLaws, Stand theStand, Rules theRules) {
@@ -1125,23 +1127,20 @@ public final class Huffboard {
         /** Takes the position as it is for the one that was set. */
         void begin() {
             played = 0;
-            first = stand.mover;
             keep();
         }
 
         private void keep() {
-            write(souths, played, stand.south);
-            write(norths, played, stand.north);
-            write(crowned, played, stand.kings);
+            write(sides, played, stand.sides());
+            write(rests, played, stand.rest());
         }
 
         private void bring(int at) {
-            stand.set(read(souths, at), read(norths, at), read(crowned, at), (first + at) % 2);
+            stand.bring(read(sides, at), read(rests, at));
         }
 
         private boolean isKeptAt(int at) {
-            return stand.south == read(souths, at) && stand.north == read(norths, at)
-                && stand.kings == read(crowned, at) && stand.mover == (first + at) % 2;
+            return stand.isAt(read(sides, at), read(rests, at));
         }
 
         void advance(long move) {
@@ -1261,30 +1260,26 @@ public final class Huffboard {
             if (depth == 1) {
                 return end - base;
             }
-            long south = stand.south;
-            long north = stand.north;
-            long kings = stand.kings;
-            int mover = stand.mover;
+            long sides = stand.sides();
+            long rest = stand.rest();
             int sum = 0;
             for (int i = base; i < end; i++) {
                 stand.carry(rules.listed(i));
                 sum += countLines(depth - 1, end);
-                stand.set(south, north, kings, mover);
+                stand.bring(sides, rest);
             }
             return sum;
         }
 
         /** The moves behind each of the moves listed at the bottom of the stack, all together. */
         int countBehind(int end) {
-            long south = stand.south;
-            long north = stand.north;
-            long kings = stand.kings;
-            int mover = stand.mover;
+            long sides = stand.sides();
+            long rest = stand.rest();
             int sum = 0;
             for (int i = 0; i < end; i++) {
                 stand.carry(rules.listed(i));
                 sum += rules.isCrownedBehind() ? 0 : rules.list(end, false) - end;
-                stand.set(south, north, kings, mover);
+                stand.bring(sides, rest);
             }
             return sum;
         }
@@ -1321,22 +1316,35 @@ public final class Huffboard {
             return NONE;
         }
 
-        boolean isKey(long move, int moves, int base) {
-            long south = stand.south;
-            long north = stand.north;
-            long kings = stand.kings;
-            int mover = stand.mover;
+        /** Whether behind the move the other side loses in the rest of so many moves. */
+        private boolean isKey(long move, int moves, int base) {
+            long sides = stand.sides();
+            long rest = stand.rest();
             stand.carry(move);
             boolean isLost = loses(moves - 1, base);
-            stand.set(south, north, kings, mover);
+            stand.bring(sides, rest);
             return isLost;
         }
 
+        /** Whether the keys are those moves behind which the table has the other side lost. */
+        boolean areKeysRight(Ending ending) {
+            if (ending.resultNow() == Ending.ABSENT) {
+                return true;
+            }
+            for (int moves = 1; moves <= MOST_PROVED; moves++) {
+                int end = listAside();
+                for (int i = 0; i < end; i++) {
+                    if (isKey(rules.listed(i), moves, end) != ending.isLostIn(rules.listed(i), moves - 1)) {
+                        return false;
+                    }
+                }
+            }
+            return true;
+        }
+
         int countDuals(int moves) {
-            long south = stand.south;
-            long north = stand.north;
-            long kings = stand.kings;
-            int mover = stand.mover;
+            long sides = stand.sides();
+            long rest = stand.rest();
             int sum = 0;
             for (int left = moves; left > 0; left -= 2) {
                 int key = keyNumber(left, 0);
@@ -1352,16 +1360,14 @@ public final class Huffboard {
                 }
                 stand.carry(rules.listed(slowest(answers, left - 2)));
             }
-            stand.set(south, north, kings, mover);
+            stand.bring(sides, rest);
             return sum;
         }
 
         /** The first of the answers at the bottom of the stack by which the win takes longest. */
         private int slowest(int answers, int limit) {
-            long south = stand.south;
-            long north = stand.north;
-            long kings = stand.kings;
-            int mover = stand.mover;
+            long sides = stand.sides();
+            long rest = stand.rest();
             int found = 0;
             int most = NONE;
             for (int i = 0; i < answers; i++) {
@@ -1370,7 +1376,7 @@ public final class Huffboard {
                 for (int moves = 0; moves < limit && !wins(moves, answers); moves++) {
                     length = moves + 1;
                 }
-                stand.set(south, north, kings, mover);
+                stand.bring(sides, rest);
                 if (length > most) {
                     most = length;
                     found = i;
@@ -1414,15 +1420,13 @@ public final class Huffboard {
             if (end == base) {
                 return !laws.holds(STUCK_WINS);
             }
-            long south = stand.south;
-            long north = stand.north;
-            long kings = stand.kings;
-            int mover = stand.mover;
+            long sides = stand.sides();
+            long rest = stand.rest();
             boolean isHeld = true;
             for (int i = base; i < end && isHeld; i++) {
                 stand.carry(rules.listed(i));
                 isHeld = wins(limit - 1, end);
-                stand.set(south, north, kings, mover);
+                stand.bring(sides, rest);
             }
             return isHeld;
         }
@@ -1440,7 +1444,8 @@ public final class Huffboard {
     private static final class Ending {
         private static final int DRAWN = -1;
         private static final int ABSENT = -2;
-        private static final int FIRST_WAYS = 1024;
+        /** What the places of a table have of ways on the average, more than ever was seen. */
+        private static final int WAYS_A_PLACE = 4;
 
         private final Ground ground;
         private final Laws laws;
@@ -1471,27 +1476,26 @@ public final class Huffboard {
 
         /** Solves all positions; returns how many there are. */
         int build(int most) {
-            long south = stand.south;
-            long north = stand.north;
-            long kings = stand.kings;
-            int mover = stand.mover;
+            long sides = stand.sides();
+            long rest = stand.rest();
+            int slots = slotsBelow(most + 1);
+            reserve(slots);
             pieces = most;
-            reserve(slotsBelow(most + 1));
             queued = 0;
             ways = 0;
             int number = 0;
-            for (int slot = 0; slot < slotsBelow(most + 1); slot++) {
+            for (int slot = 0; slot < slots; slot++) {
                 write(results, slot, ABSENT);
                 write(heads, slot, NONE);
             }
-            for (int slot = 0; slot < slotsBelow(most + 1); slot++) {
+            for (int slot = 0; slot < slots; slot++) {
                 if (place(slot)) {
                     number++;
                     open(slot);
                 }
             }
             solveBackwards();
-            stand.set(south, north, kings, mover);
+            stand.bring(sides, rest);
             return 2 * number;
         }
 
@@ -1501,6 +1505,10 @@ public final class Huffboard {
                 waiting = new int[slots];
                 queue = new int[slots];
                 heads = new int[slots];
+            }
+            if (slots > origins.length / WAYS_A_PLACE) {
+                origins = new int[slots * WAYS_A_PLACE];
+                links = new int[slots * WAYS_A_PLACE];
             }
         }
 
@@ -1512,13 +1520,12 @@ public final class Huffboard {
             if (end == 0) {
                 settle(slot, over());
             }
-            long south = stand.south;
-            long north = stand.north;
-            long kings = stand.kings;
+            long sides = stand.sides();
+            long rest = stand.rest();
             for (int i = 0; i < end; i++) {
                 stand.carry(rules.listed(i));
                 addWay(slot, slotNow());
-                stand.set(south, north, kings, 0);
+                stand.bring(sides, rest);
             }
         }
 
@@ -1538,8 +1545,8 @@ public final class Huffboard {
         }
 
         private boolean grow() {
-            int length = Math.max(FIRST_WAYS, origins.length * 2);
-            if (length > MOST_LISTED) {
+            int length = origins.length * 2;
+            if (length <= origins.length || length > MOST_LISTED) {
                 return false;
             }
             int[] longerOrigins = new int[length];
@@ -1560,7 +1567,7 @@ public final class Huffboard {
         /** Goes from solved positions to those before them; as the nearer ones come ahead, the
             first lost one behind a position is the nearest, and the last won one the farthest. */
         private void solveBackwards() {
-            for (int i = 0; i < queued; i++) {
+            for (int i = 0; i < queued && i < queue.length; i++) {
                 int slot = read(queue, i);
                 int result = read(results, slot);
                 int farther = 2 * (result >> 1) + 2;
@@ -1624,11 +1631,19 @@ public final class Huffboard {
                     field = i;
                 }
                 rank -= choose(field, nth);
-                stand.putLetter(field, "mkMK".charAt(kinds & 3));
+                stand.putLetter(field, letterOfKind(kinds & 3));
                 kinds >>= 2;
             }
             return (stand.south & ~stand.kings & ground.lastRowOf(0)) == 0
                 && (stand.north & ~stand.kings & ground.lastRowOf(1)) == 0;
+        }
+
+        /** The piece of a kind, the side that moves being the side 0. */
+        private static char letterOfKind(int kind) {
+            if (kind < 2) {
+                return kind == 0 ? 'm' : 'k';
+            }
+            return kind == 2 ? 'M' : 'K';
         }
 
         /** How many places there are for positions with fewer pieces. */
@@ -1649,7 +1664,8 @@ public final class Huffboard {
 
         int countOf(char value, int number) {
             int sum = 0;
-            for (int slot = slotsBelow(number); slot < slotsBelow(number + 1); slot++) {
+            int end = slotsBelow(number + 1);
+            for (int slot = slotsBelow(number); slot < end; slot++) {
                 int result = read(results, slot);
                 sum += result != ABSENT && letterOf(result) == value ? 2 : 0;
             }
@@ -1658,7 +1674,8 @@ public final class Huffboard {
 
         int longestWin() {
             int most = NONE;
-            for (int slot = 0; slot < slotsBelow(pieces + 1); slot++) {
+            int slots = slotsBelow(pieces + 1);
+            for (int slot = 0; slot < slots; slot++) {
                 int result = read(results, slot);
                 if (result >= 0 && (result & 1) == 1) {
                     most = Math.max(most, result >> 1);
@@ -1669,13 +1686,11 @@ public final class Huffboard {
 
         /** The result behind a move. */
         private int resultBehind(long move) {
-            long south = stand.south;
-            long north = stand.north;
-            long kings = stand.kings;
-            int mover = stand.mover;
+            long sides = stand.sides();
+            long rest = stand.rest();
             stand.carry(move);
             int slot = slotNow();
-            stand.set(south, north, kings, mover);
+            stand.bring(sides, rest);
             return slot == NONE ? ABSENT : read(results, slot);
         }
 
@@ -1708,17 +1723,15 @@ public final class Huffboard {
 
         /** Whether each entry of the table is what its moves tell. */
         boolean isRight() {
-            long south = stand.south;
-            long north = stand.north;
-            long kings = stand.kings;
-            int mover = stand.mover;
+            long sides = stand.sides();
+            long rest = stand.rest();
             boolean right = true;
             int slots = pieces == 0 ? 0 : slotsBelow(pieces + 1);
             for (int slot = 0; slot < slots && right; slot++) {
                 int due = place(slot) ? resultByMoves() : ABSENT;
                 right = read(results, slot) == due;
             }
-            stand.set(south, north, kings, mover);
+            stand.bring(sides, rest);
             return right;
         }
 
@@ -1738,10 +1751,8 @@ public final class Huffboard {
     /** The barred moves and the claims. */
     private static final class Book {
         private final int[] bars = new int[MOST_BARRED];
-        private final long[] souths = new long[MOST_CLAIMS];
-        private final long[] norths = new long[MOST_CLAIMS];
-        private final long[] crowned = new long[MOST_CLAIMS];
-        private final int[] movers = new int[MOST_CLAIMS];
+        private final long[] sides = new long[MOST_CLAIMS];
+        private final long[] rests = new long[MOST_CLAIMS];
         private final int[] values = new int[MOST_CLAIMS];
         private int barred;
         private int claims;
@@ -1765,17 +1776,15 @@ public final class Huffboard {
         }
 
         void addClaim(Stand stand, char value) {
-            write(souths, claims, stand.south);
-            write(norths, claims, stand.north);
-            write(crowned, claims, stand.kings);
-            write(movers, claims, stand.mover);
+            write(sides, claims, stand.sides());
+            write(rests, claims, stand.rest());
             write(values, claims, value);
             claims++;
         }
 
         /** Lays the position of a claim. */
         void bring(int claim, Stand stand) {
-            stand.set(read(souths, claim), read(norths, claim), read(crowned, claim), read(movers, claim));
+            stand.bring(read(sides, claim), read(rests, claim));
         }
 
         char claimedAt(int claim) {
