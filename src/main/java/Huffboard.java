@@ -457,7 +457,7 @@ public final class Huffboard {
     public long checksum() {
         long sum = stand.mover;
         for (int field = 0; field < ground.fields; field++) {
-            sum = 31 * sum + numberOf(stand.letterAt(field));
+            sum = 31 * sum + "-mkMK".indexOf(stand.letterAt(field));
         }
         return sum;
     }
@@ -586,21 +586,6 @@ public final class Huffboard {
 
     private static boolean has(long fields, int field) {
         return (fields >> field & 1L) != 0;
-    }
-
-    private static int numberOf(char piece) {
-        switch (piece) {
-            case 'm':
-                return 1;
-            case 'k':
-                return 2;
-            case 'M':
-                return 3;
-            case 'K':
-                return 4;
-            default:
-                return 0;
-        }
     }
 
     private static char letterOf(int result) {
