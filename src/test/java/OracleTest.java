@@ -1,90 +1,137 @@
 import java.lang.reflect.InvocationTargetException;
 import java.lang.reflect.Method;
 import java.util.ArrayList;
+import java.util.HashMap;
 import java.util.List;
+import java.util.Map;
 import java.util.Random;
 
-/** Long runs of calls by lot, the same for the class and for the Oracle: all answers must be alike. */
+/**
+ * Long runs of calls by lot, the same for the class and for the Oracle: all answers must be alike.
+ * Told a first seed and a number of runs, it makes those instead.
+ */
 public final class OracleTest {
     private static final int RUNS = 1500;
     private static final int CALLS = 120;
+    private static final String OFTEN = "play play play play move move move back huff huffs state moves told draw "
+        + "put put proves keys keyAt duals sources meanMoves best value distance lines why calm seen ";
+    private static final String AT_TIMES = "from to captured captures crowns at pieces side beside fields played "
+        + "crownShare checksum count longest claim refuted law turn bar isSound solve ";
+    private static final String SELDOM = "fill board unbar back";
+    private static final String[] NAMES = (OFTEN + OFTEN + OFTEN + AT_TIMES + SELDOM).split(" ");
+    private static final Map<String, Method> BOARD = methods(Huffboard.class);
+    private static final Map<String, Method> ORACLE = methods(Oracle.class);
 
     private final Random lot;
     private final Huffboard board = new Huffboard();
     private final Oracle oracle = new Oracle();
     private final List<String> calls = new ArrayList<>();
+    private String wrong = null;
 
     private OracleTest(long seed) {
         lot = new Random(seed);
     }
 
     public static void main(String[] args) throws Exception {
-        int runs = args.length > 1 ? Integer.parseInt(args[1]) : RUNS;
         long first = args.length > 0 ? Long.parseLong(args[0]) : 1;
+        int runs = args.length > 1 ? Integer.parseInt(args[1]) : RUNS;
         for (long seed = first; seed < first + runs; seed++) {
             OracleTest run = new OracleTest(seed);
-            String wrong = run.play();
-            if (wrong != null) {
-                System.out.println("seed " + seed + ": " + wrong);
-                for (String call : run.calls) {
-                    System.out.println("  " + call);
-                }
+            run.play();
+            if (run.wrong != null) {
+                System.out.println("seed " + seed + ": " + run.wrong);
+                run.calls.forEach(call -> System.out.println("  " + call));
                 System.exit(1);
             }
         }
         System.out.println(runs + " runs are as the oracle says");
     }
 
-    private String play() throws Exception {
-        setUp();
-        for (int i = 0; i < CALLS; i++) {
-            String wrong = next();
-            if (wrong != null) {
-                return wrong;
+    private static Map<String, Method> methods(Class<?> kind) {
+        Map<String, Method> found = new HashMap<>();
+        for (Method method : kind.getMethods()) {
+            if (method.getDeclaringClass() == kind) {
+                found.put(method.getName(), method);
             }
         }
-        return null;
+        return found;
+    }
+
+    private void play() throws Exception {
+        setUp();
+        for (int i = 0; i < CALLS && wrong == null; i++) {
+            String name = name();
+            make(name, arguments(name));
+        }
     }
 
     private void setUp() throws Exception {
-        same("board", lot.nextInt(10) < 6 ? 4 + lot.nextInt(2) : 4 + lot.nextInt(5));
+        make("board", lot.nextInt(10) < 6 ? 4 + lot.nextInt(2) : 4 + lot.nextInt(5));
         for (int law = 0; law < 9; law++) {
-            same("law", law, lot.nextInt(law == 2 || law == 5 ? 3 : 2));
+            make("law", law, lot.nextInt(law == 2 || law == 5 ? 3 : 2));
         }
-        if (lot.nextInt(3) == 0) {
-            same("law", 8, 0);
+        if (lot.nextInt(3) > 0) {
+            make("law", 8, 0);
         }
-        same("law", 9, lot.nextInt(3) == 0 ? 1 + lot.nextInt(6) : 0);
-        same("law", 10, lot.nextInt(3) == 0 ? 1 + lot.nextInt(4) : 0);
+        make("law", 9, lot.nextInt(3) == 0 ? 1 + lot.nextInt(6) : 0);
+        make("law", 10, lot.nextInt(3) == 0 ? 1 + lot.nextInt(4) : 0);
         if (lot.nextInt(4) == 0) {
-            same("fill", 1 + lot.nextInt(oracle.fields() > 17 ? 2 : 1));
+            make("fill", 1 + lot.nextInt(oracle.fields() > 17 ? 2 : 1));
         } else {
             int most = lot.nextBoolean() ? 4 : oracle.fields() / 2;
             for (int i = 1 + lot.nextInt(most); i > 0; i--) {
-                same("put", lot.nextInt(oracle.fields()), "mkMK".charAt(lot.nextInt(4)));
+                make("put", field(), letter("mkMK"));
             }
         }
-        same("turn", lot.nextInt(2));
+        if (oracle.fields() < 13 && lot.nextBoolean()) {
+            make("solve", 1 + lot.nextInt(2));
+        }
+        make("turn", lot.nextInt(2));
     }
 
-    private String next() throws Exception {
-        int kind = lot.nextInt(100);
-        if (kind < 25) {
-            return askBoard();
+    /** A game that is over is mostly taken back or begun again, and what can be huffed mostly is. */
+    private String name() {
+        if (oracle.state() != 'p' && lot.nextInt(3) == 0) {
+            return oracle.played() > 0 ? "back" : "put";
         }
-        if (kind < 45) {
-            return askMoves();
+        if (oracle.huffs() > 0 && lot.nextInt(3) == 0) {
+            return "huff";
         }
-        if (kind < 70) {
-            return playOn();
-        }
-        if (kind < 85) {
-            return askEnding();
-        }
-        if (kind < 93) {
-            return askProof();
-        }
-        return change();
+        return NAMES[lot.nextInt(NAMES.length)];
+    }
+
+    private Object[] arguments(String name) {
+        return switch (name) {
+            case "board" -> values(number(4, 8));
+            case "law" -> values(number(0, 10), number(0, 2));
+            case "put" -> values(field(), letter("mkMK-x"));
+            case "fill" -> values(number(0, 2));
+            case "turn" -> values(number(0, 1));
+            case "at" -> values(field());
+            case "huff" -> values(huffed());
+            case "pieces" -> values(number(0, 1), lot.nextBoolean());
+            case "beside" -> values(field(), number(0, 3));
+            case "from", "to", "captured", "crowns", "play" -> values(index());
+            case "captures" -> values(index(), field());
+            case "told", "move", "bar" -> twoFields();
+            case "lines" -> values(depth(0, 4));
+            case "proves" -> values(depth(0, 6));
+            case "keys", "duals" -> values(depth(1, 6));
+            case "keyAt" -> values(depth(1, 6), lot.nextInt(4) - 1);
+            case "solve" -> values(tableOf());
+            case "count" -> values(letter("wldx"), number(1, 3));
+            case "claim" -> values(letter("wldx"));
+            case "draw" -> values(number(0, 99999), number(0, 6));
+            default -> values();
+        };
+    }
+
+    private static Object[] values(Object... values) {
+        return values;
+    }
+
+    private char letter(String letters) {
+        return letters.charAt(lot.nextInt(letters.length()));
     }
 
     private int field() {
@@ -100,133 +147,61 @@ public final class OracleTest {
         return moves == 0 || lot.nextInt(30) == 0 ? lot.nextInt(moves + 4) - 2 : lot.nextInt(moves);
     }
 
-    private String askBoard() throws Exception {
-        switch (lot.nextInt(11)) {
-            case 0: return same("at", field());
-            case 1: return same("pieces", number(0, 1), lot.nextBoolean());
-            case 2: return same("side");
-            case 3: return same("beside", field(), number(0, 3));
-            case 4: return same("fields");
-            case 5: return same("crownShare");
-            case 6: return same("state");
-            case 7: return same("calm");
-            case 8: return same("seen");
-            case 9: return same("sources");
-            default: return same("checksum");
-        }
+    /** Those of a move that there is, or any. */
+    private Object[] twoFields() {
+        int index = index();
+        boolean isMove = index >= 0 && index < oracle.moves();
+        return isMove && lot.nextInt(3) > 0 ? values(oracle.from(index), oracle.to(index)) : values(field(), field());
     }
 
-    private String askMoves() throws Exception {
-        switch (lot.nextInt(9)) {
-            case 0: return same("moves");
-            case 1: return same("from", index());
-            case 2: return same("to", index());
-            case 3: return same("captured", index());
-            case 4: return same("captures", index(), field());
-            case 5: return same("crowns", index());
-            case 6: return same("told", field(), field());
-            case 7: return same("huffs");
-            default: return same("meanMoves");
-        }
-    }
-
-    private String playOn() throws Exception {
-        switch (lot.nextInt(8)) {
-            case 0:
-            case 1:
-                return same("play", index());
-            case 2: {
-                int index = index();
-                boolean isMove = index >= 0 && index < oracle.moves();
-                return isMove ? same("move", oracle.from(index), oracle.to(index)) : same("move", field(), field());
+    /** A field with a piece of the side that does not move, or any. */
+    private int huffed() {
+        String others = oracle.side() == 0 ? "MK" : "mk";
+        for (int i = 0; i < 20; i++) {
+            int field = lot.nextInt(oracle.fields());
+            if (others.indexOf(oracle.at(field)) >= 0) {
+                return field;
             }
-            case 3: return same("move", field(), field());
-            case 4: return same("why");
-            case 5: return lot.nextInt(3) == 0 ? same("back") : same("played");
-            case 6: return same("huff", field());
-            default: return lot.nextInt(3) == 0 ? same("draw", number(0, 99999), number(0, 6)) : same("huffs");
         }
-    }
-
-    private String askEnding() throws Exception {
-        switch (lot.nextInt(9)) {
-            case 0: {
-                int most = oracle.fields() < 10 ? lot.nextInt(5) == 0 ? 3 : 2 : lot.nextInt(60) == 0 ? 3 : 2;
-                return lot.nextInt(3) == 0 ? same("solve", number(1, most) > most ? 4 : number(1, most)) : null;
-            }
-            case 1: return same("value");
-            case 2: return same("distance");
-            case 3: return same("count", "wldx".charAt(lot.nextInt(4)), number(1, 3));
-            case 4: return same("longest");
-            case 5: return same("best");
-            case 6: return same("claim", "wldx".charAt(number(0, 2) & 3));
-            case 7: return same("refuted");
-            default: return lot.nextInt(4) == 0 ? same("isSound") : null;
-        }
+        return field();
     }
 
     /** A number of moves that the Oracle can search through in good time. */
     private int depth(int least, int most) {
+        if (lot.nextInt(30) == 0) {
+            return lot.nextBoolean() ? least - 1 : most + 1;
+        }
         int branches = Math.max(2, oracle.moves());
         int depth = 0;
         for (long all = branches; depth < most && all < 3000; all *= branches) {
             depth++;
         }
-        return lot.nextInt(30) == 0 ? lot.nextBoolean() ? least - 1 : most + 1 : Math.max(least, lot.nextInt(depth + 1));
+        return Math.max(least, depth - lot.nextInt(3));
     }
 
-    private String askProof() throws Exception {
-        switch (lot.nextInt(5)) {
-            case 0: return same("lines", depth(0, 4));
-            case 1: return same("proves", depth(0, 6));
-            case 2: return same("keys", depth(1, 6));
-            case 3: return same("keyAt", depth(1, 6), lot.nextInt(4) - 1);
-            default: return same("duals", depth(1, 6));
-        }
+    /** A number of pieces; tables of three are dear on a board of 5 rows. */
+    private int tableOf() {
+        int number = number(1, 3);
+        return number == 3 && oracle.fields() == 12 && lot.nextInt(20) > 0 ? 2 : number;
     }
 
-    private String change() throws Exception {
-        switch (lot.nextInt(12)) {
-            case 0: return same("law", number(0, 10), number(0, 2));
-            case 1:
-            case 2:
-            case 3: return same("put", field(), "mkMK-x".charAt(lot.nextInt(6)));
-            case 4: return same("turn", number(0, 1));
-            case 5: return lot.nextInt(4) == 0 ? same("fill", number(0, 2)) : null;
-            case 6: return lot.nextInt(8) == 0 ? same("board", number(4, 8)) : null;
-            case 7: return lot.nextInt(4) == 0 ? same("unbar") : null;
-            case 8: return same("bar", field(), field());
-            default: {
-                int index = index();
-                boolean isMove = index >= 0 && index < oracle.moves();
-                return isMove ? same("bar", oracle.from(index), oracle.to(index)) : same("back");
-            }
-        }
-    }
-
-    private String same(String name, Object... args) throws Exception {
+    private void make(String name, Object... args) throws Exception {
         String call = name + List.of(args);
         calls.add(call);
-        String got = answer(board, name, args);
-        String due = answer(oracle, name, args);
+        String got = answer(BOARD.get(name), board, args);
+        String due = answer(ORACLE.get(name), oracle, args);
         if (!got.equals(due)) {
-            return call + " answered " + got + ", due is " + due;
+            wrong = call + " answered " + got + ", due is " + due;
+        } else if (board.checksum() != oracle.checksum()) {
+            wrong = "behind " + call + " the position is another one";
         }
-        String sumGot = answer(board, "checksum");
-        String sumDue = answer(oracle, "checksum");
-        return sumGot.equals(sumDue) ? null : "behind " + call + " the position is another one";
     }
 
-    private static String answer(Object object, String name, Object... args) throws Exception {
-        for (Method method : object.getClass().getMethods()) {
-            if (method.getName().equals(name) && method.getDeclaringClass() == object.getClass()) {
-                try {
-                    return String.valueOf(method.invoke(object, args));
-                } catch (InvocationTargetException e) {
-                    return e.getCause().getClass().getSimpleName();
-                }
-            }
+    private static String answer(Method method, Object object, Object... args) throws Exception {
+        try {
+            return String.valueOf(method.invoke(object, args));
+        } catch (InvocationTargetException e) {
+            return e.getCause().getClass().getSimpleName();
         }
-        throw new IllegalStateException(name);
     }
 }
