@@ -778,7 +778,7 @@ public final class Huffboard {
         private final Ground ground;
         private final Laws laws;
         private final Stand stand;
-        private long[] stack = new long[256];
+        private long[] stack = new long[64];
         private int base;
         private int end;
         private int from;
@@ -1429,8 +1429,9 @@ public final class Huffboard {
     private static final class Ending {
         private static final int DRAWN = -1;
         private static final int ABSENT = -2;
-        /** What the places of a table have of ways on the average, more than ever was seen. */
-        private static final int WAYS_A_PLACE = 4;
+        /** What the places of a table have of ways on the average: less than 2.95, as counted over
+            all laws, boards and numbers of pieces. */
+        private static final int WAYS_A_PLACE = 3;
 
         private final Ground ground;
         private final Laws laws;
@@ -1490,8 +1491,6 @@ public final class Huffboard {
                 waiting = new int[slots];
                 queue = new int[slots];
                 heads = new int[slots];
-            }
-            if (slots > origins.length / WAYS_A_PLACE) {
                 origins = new int[slots * WAYS_A_PLACE];
                 links = new int[slots * WAYS_A_PLACE];
             }
@@ -1520,27 +1519,10 @@ public final class Huffboard {
         }
 
         private void addWay(int origin, int slot) {
-            if (ways >= origins.length && !grow()) {
-                return;
-            }
             write(origins, ways, origin);
             write(links, ways, read(heads, slot));
             write(heads, slot, ways);
             ways++;
-        }
-
-        private boolean grow() {
-            int length = origins.length * 2;
-            if (length <= origins.length || length > MOST_LISTED) {
-                return false;
-            }
-            int[] longerOrigins = new int[length];
-            int[] longerLinks = new int[length];
-            System.arraycopy(origins, 0, longerOrigins, 0, origins.length);
-            System.arraycopy(links, 0, longerLinks, 0, links.length);
-            origins = longerOrigins;
-            links = longerLinks;
-            return true;
         }
 
         private void settle(int slot, int result) {

@@ -1,11 +1,26 @@
-/** Counts the answers that are not as due; each test ends with end(). */
+import java.lang.reflect.InvocationTargetException;
+import java.lang.reflect.Method;
+import java.util.Comparator;
+import java.util.Map;
+import java.util.TreeMap;
+
+/** Counts the answers that are not as due; each test ends with end(), or is run by all(). */
 public final class Check {
     interface Call {
         Object make();
     }
 
+    interface Maker {
+        Huffboard make();
+    }
+
+    interface Use {
+        Object on(Huffboard board);
+    }
+
     private static int made = 0;
     private static int wrong = 0;
+    private static String test = "";
 
     private Check() {
     }
@@ -14,7 +29,7 @@ public final class Check {
         made++;
         if (!due.equals(got)) {
             wrong++;
-            System.out.println(what + " is " + got + ", due is " + due);
+            System.out.println(test + what + " is " + got + ", due is " + due);
         }
     }
 
@@ -37,6 +52,52 @@ public final class Check {
         }
         same(what, due, got);
         same(what + ": what it leaves", before, Boards.print(board));
+    }
+
+    /** The call must throw just that, and all that later calls tell must be as if it had not been made. */
+    static void refuses(String what, Class<? extends Exception> due, Maker maker, Use call) {
+        Huffboard board = maker.make();
+        same(what, due.getSimpleName(), Boards.answer(() -> call.on(board)));
+        same(what + ": what it leaves", Boards.whole(maker.make()), Boards.whole(board));
+    }
+
+    /** The move by two fields must be refused for that reason, and nothing else may be another one then. */
+    static void refusesMove(String what, char why, Maker maker, int from, int to) {
+        Huffboard board = maker.make();
+        same(what, "UnsupportedOperationException", Boards.answer(() -> board.move(from, to)));
+        same(what + ": why", why, board.why());
+        String whole = Boards.whole(maker.make());
+        same(what + ": what it leaves", whole.substring(whole.indexOf(',')), Boards.whole(board).replaceAll("^why .,", ","));
+    }
+
+    /** Runs all tests of a class: its methods that are named after a promise. */
+    static void all(Class<?> tests) {
+        Map<String, Method> found = new TreeMap<>(Comparator.comparingInt(Check::promise).thenComparing(name -> name));
+        for (Method method : tests.getDeclaredMethods()) {
+            if (promise(method.getName()) > 0) {
+                found.put(method.getName(), method);
+            }
+        }
+        found.forEach(Check::run);
+        System.out.println(found.size() + " tests");
+        end();
+    }
+
+    /** The number of the promise that a test is named after, 0 if it is no test. */
+    static int promise(String name) {
+        String number = name.replaceAll("^promise(\\d+)[A-Z].*", "$1");
+        return number.equals(name) ? 0 : Integer.parseInt(number);
+    }
+
+    private static void run(String name, Method method) {
+        test = name + ": ";
+        try {
+            method.invoke(null);
+        } catch (InvocationTargetException e) {
+            same("what it throws", "nothing", e.getCause());
+        } catch (IllegalAccessException e) {
+            same("what hides it", "nothing", e);
+        }
     }
 
     static void end() {

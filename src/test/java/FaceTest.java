@@ -72,6 +72,7 @@ public final class FaceTest {
         nested();
         words();
         lengths();
+        edges();
         Check.end();
     }
 
@@ -157,6 +158,21 @@ public final class FaceTest {
         Matcher imports = Pattern.compile("(?m)^import .*$").matcher(code);
         while (imports.find()) {
             Check.same("an import", "import java.util.NoSuchElementException;", imports.group());
+        }
+    }
+
+    /** Each promise has tests of its boundary cases that are named after it. */
+    private static void edges() {
+        Class<?>[] kinds = {BoardEdgesTest.class, MovesEdgesTest.class, GameEdgesTest.class, SearchEdgesTest.class,
+            EndingEdgesTest.class, BookEdgesTest.class};
+        int[] tests = new int[50];
+        for (Class<?> kind : kinds) {
+            for (Method method : kind.getDeclaredMethods()) {
+                tests[Check.promise(method.getName())]++;
+            }
+        }
+        for (int promise = 1; promise < tests.length; promise++) {
+            Check.yes("promise " + promise + " has tests", tests[promise] > 0);
         }
     }
 

@@ -57,20 +57,8 @@ public final class GameTest {
         Check.fails("18: the game is over", INDEX, board, () -> board.play(0));
     }
 
-    /** Two kings that go to and fro in their corners until 120 moves are kept. */
-    private static Huffboard longGame(String laws) {
-        Huffboard board = Boards.of(6, laws, "k15 K2");
-        for (int i = 0; i < 30; i++) {
-            board.move(15, 12);
-            board.move(2, 5);
-            board.move(12, 15);
-            board.move(5, 2);
-        }
-        return board;
-    }
-
     private static void full() {
-        Huffboard board = longGame("");
+        Huffboard board = Boards.toAndFro("", 120);
         Check.same("25: 120", 120, board.played());
         Check.same("26: goes on", 'p', board.state());
         Check.same("27: calm", 120, board.calm());
@@ -319,7 +307,7 @@ public final class GameTest {
         Check.same("26: one", 'p', board.move(5, 2));
         Check.same("26: two", 'p', board.move(12, 15));
         Check.same("26: three", 'd', board.move(2, 5));
-        Check.same("26: law 9 is 0", 'p', longGame("9=0").state());
+        Check.same("26: law 9 is 0", 'p', Boards.toAndFro("9=0", 120).state());
         Check.same("26: law 9 is 1", 'd', Boards.of(6, "9=1", "k15 K2").play(0));
         Huffboard shut = Boards.of(6, "9=1", "m15 m16 m9 m10 M12 k2");
         Check.same("26: a win ahead of law 9", '0', shut.move(2, 5));
@@ -344,7 +332,7 @@ public final class GameTest {
         Check.same("26: at once", 'd', Boards.of(6, "10=1", "k15 K2").state());
         Check.same("12: no moves at once", 0, Boards.of(6, "10=1", "k15 K2").moves());
         Check.same("26: a win ahead of law 10", '1', Boards.of(6, "10=1", "K2").state());
-        Check.same("26: law 10 is 0", 'p', longGame("10=0").state());
+        Check.same("26: law 10 is 0", 'p', Boards.toAndFro("10=0", 120).state());
     }
 
     private static void calm() {
