@@ -1,15 +1,7 @@
 import java.math.BigInteger;
-import java.util.NoSuchElementException;
 
 /** One test for each sentence that names a boundary case of the board, its laws and what stands on it. */
-public final class BoardEdgesTest {
-    private static final Class<IllegalArgumentException> ARGUMENT = IllegalArgumentException.class;
-    private static final Class<IllegalStateException> STATE = IllegalStateException.class;
-    private static final Class<IndexOutOfBoundsException> INDEX = IndexOutOfBoundsException.class;
-    private static final Class<UnsupportedOperationException> UNSUPPORTED = UnsupportedOperationException.class;
-    private static final Class<NoSuchElementException> NONE = NoSuchElementException.class;
-    private static final int LEAST = Integer.MIN_VALUE;
-    private static final int GREATEST = Integer.MAX_VALUE;
+public final class BoardEdgesTest extends Edges {
     /** How many fields the boards of 4 to 8 rows have. */
     private static final int[] FIELDS = {8, 12, 18, 24, 32};
     /** The greatest value of each law. */
@@ -79,6 +71,24 @@ public final class BoardEdgesTest {
         Check.same("a new one beside one that was used", fresh, Boards.whole(new Huffboard()));
     }
 
+    /** "An object is used for at most 512 calls": the last one of them is answered as the first one. */
+    static void promise1ANewBoardAnswers512Calls() {
+        Huffboard board = new Huffboard();
+        board.board(4);
+        board.put(7, 'm');
+        board.put(1, 'M');
+        board.solve(3);
+        for (int calls = 4; calls < 508; calls += 3) {
+            board.play(0);
+            board.keys(6);
+            board.back();
+        }
+        Check.same("the 509th", 2, board.moves());
+        Check.same("the 510th", 0, board.played());
+        Check.same("the 511th", 'w', board.value());
+        Check.same("the 512th", 3, board.distance());
+    }
+
     // Promise 2
 
     /** "size: 4 to 8" and "Returns how many fields it has." */
@@ -107,14 +117,6 @@ public final class BoardEdgesTest {
             Check.same("kings of " + rows, 0, board.pieces(0, true));
             Check.same("checksum of " + rows, 0L, board.checksum());
         }
-    }
-
-    private static Huffboard full(int rows, char piece) {
-        Huffboard board = ofRows(rows);
-        for (int field = 0; field < board.fields(); field++) {
-            board.put(field, piece);
-        }
-        return board;
     }
 
     /** "a game ... gone". */
@@ -316,8 +318,10 @@ public final class BoardEdgesTest {
             for (int k = 0; k < rows / 2; k++) {
                 int above = k;
                 int below = last - k;
-                Check.refuses("m on " + above + " of " + rows, ARGUMENT, () -> ofRows(rows), one -> one.put(above, 'm'));
-                Check.refuses("M on " + below + " of " + rows, ARGUMENT, () -> ofRows(rows), one -> one.put(below, 'M'));
+                Check.refuses("m on " + above + " of " + rows, ARGUMENT, () -> ofRows(rows),
+                    one -> one.put(above, 'm'));
+                Check.refuses("M on " + below + " of " + rows, ARGUMENT, () -> ofRows(rows),
+                    one -> one.put(below, 'M'));
                 Huffboard board = ofRows(rows);
                 Check.same("M on " + above + " of " + rows, '-', board.put(above, 'M'));
                 Check.same("m on " + below + " of " + rows, '-', board.put(below, 'm'));
@@ -612,7 +616,7 @@ public final class BoardEdgesTest {
     static void promise46CrownShareOfNoPieces() {
         for (int i = 4; i <= 8; i++) {
             int rows = i;
-            Check.refuses("none of " + rows, ArithmeticException.class, () -> ofRows(rows), Huffboard::crownShare);
+            Check.refuses("none of " + rows, ARITHMETIC, () -> ofRows(rows), Huffboard::crownShare);
         }
         Huffboard board = Boards.of(6, "m13");
         board.put(13, '-');

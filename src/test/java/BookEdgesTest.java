@@ -1,15 +1,8 @@
 import java.math.BigInteger;
 
 /** One test for each sentence that names a boundary case of barred moves, openings, claims and sources. */
-public final class BookEdgesTest {
-    private static final Class<IllegalArgumentException> ARGUMENT = IllegalArgumentException.class;
-    private static final Class<IndexOutOfBoundsException> INDEX = IndexOutOfBoundsException.class;
-    private static final Class<IllegalStateException> STATE = IllegalStateException.class;
-    private static final Class<UnsupportedOperationException> UNSUPPORTED = UnsupportedOperationException.class;
-    private static final int LEAST = Integer.MIN_VALUE;
-    private static final int GREATEST = Integer.MAX_VALUE;
-    /** How many moves are kept, moves can be barred, claims be made. */
-    private static final int MOST_KEPT = 120;
+public final class BookEdgesTest extends Edges {
+    /** How many moves can be barred, and claims be made. */
     private static final int MOST_BARRED = 10;
     private static final int MOST_CLAIMS = 20;
 
@@ -68,7 +61,12 @@ public final class BookEdgesTest {
     static void promise40BarThrowsTheFirstOfSeveral() {
         Check.refuses("no field, 10 are barred", INDEX, () -> barred(MOST_BARRED), board -> board.bar(0, 18));
         Check.refuses("barred, 10 are barred", UNSUPPORTED, () -> barred(MOST_BARRED), board -> board.bar(17, 9));
-        Check.refuses("the first one, 10 are barred", UNSUPPORTED, () -> barred(MOST_BARRED), board -> board.bar(17, 0));
+        Check.refuses("the first one, 10 are", UNSUPPORTED, () -> barred(MOST_BARRED), board -> board.bar(17, 0));
+        Check.refuses("barred as the board was greater", INDEX, () -> {
+            Huffboard board = barred(1);
+            board.board(4);
+            return board;
+        }, board -> board.bar(17, 0));
     }
 
     /** "Returns how many were": none to 10; then none is. */
@@ -120,8 +118,8 @@ public final class BookEdgesTest {
             Check.refuses("one more, " + moves, STATE, () -> Boards.toAndFro("", MOST_KEPT - told + 1),
                 one -> one.draw(1, told));
         }
-        Check.same("none, 120 are kept", 0, Boards.toAndFro("", MOST_KEPT).draw(1, 0));
-        Check.refuses("those told, though the game is over", STATE, BookEdgesTest::drawnAt120, board -> board.draw(1, 1));
+        Check.same("none, 120 are kept", 0, kept120().draw(1, 0));
+        Check.refuses("those told, as the game is over", STATE, BookEdgesTest::drawnAt120, board -> board.draw(1, 1));
     }
 
     /** A game that is drawn by law 9 just as 120 moves are kept. */
@@ -139,10 +137,10 @@ public final class BookEdgesTest {
     /** "If several exceptions apply, the one that is listed first is thrown." */
     static void promise42DrawThrowsTheFirstOfSeveral() {
         for (int wrong : new int[] {-1, 7}) {
-            Check.refuses(wrong + " moves, 120 kept", ARGUMENT, () -> Boards.toAndFro("", MOST_KEPT),
+            Check.refuses(wrong + " moves, 120 kept", ARGUMENT, Edges::kept120,
                 board -> board.draw(1, wrong));
         }
-        Check.refuses("seed -1, 120 kept", ARGUMENT, () -> Boards.toAndFro("", MOST_KEPT), board -> board.draw(-1, 1));
+        Check.refuses("seed -1, 120 kept", ARGUMENT, Edges::kept120, board -> board.draw(-1, 1));
     }
 
     /** "z ... becomes z times 1103515245, plus 12345, modulo 2147483648; z divided by 65536, cut, modulo how many". */
@@ -368,10 +366,7 @@ public final class BookEdgesTest {
         for (int rows = 4; rows <= 8; rows++) {
             Check.same("empty, side 0 of " + rows, 0, sources(rows, "", "", 0));
             Check.same("empty, side 1 of " + rows, 0, sources(rows, "", "", 1));
-            Huffboard board = Boards.of(rows, "");
-            for (int field = 0; field < board.fields(); field++) {
-                board.put(field, 'K');
-            }
+            Huffboard board = full(rows, 'K');
             Check.same("full, of " + rows, 0, board.sources());
             board.put(rows / 2, '-');
             Check.same("one field with two beside it is empty, of " + rows, 2, board.sources());
@@ -426,6 +421,10 @@ public final class BookEdgesTest {
         Check.same("law 6 is 0", 3, sources(6, "6=0", "M4 m7 M8", 0));
         Check.same("of the side 0", 2, sources(6, "", "m13 M10 m9", 1));
         Check.same("of the side 0, law 6 is 0", 3, sources(6, "6=0", "m13 M10 m9", 1));
+        Check.same("it must capture itself", 1, sources(6, "", "M7 m6", 0));
+        Check.same("it must capture itself, the side 0", 1, sources(6, "", "m10 M11", 1));
+        Check.same("a king on the first field must", 1, sources(6, "", "K0 m4 M9", 0));
+        Check.same("nobody can to a field that is taken", 4, sources(6, "4=1", "m7 M4 M0 m13", 1));
         Check.same("it must capture itself, as a king that flies", 4, sources(6, "1=1", "K7 k10", 0));
     }
 

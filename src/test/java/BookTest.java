@@ -76,7 +76,8 @@ public final class BookTest {
             other.fill(2);
             BigInteger z = BigInteger.valueOf(seed);
             for (int i = 0; i < 6; i++) {
-                z = z.multiply(BigInteger.valueOf(1103515245)).add(BigInteger.valueOf(12345)).mod(BigInteger.TWO.pow(31));
+                z = z.multiply(BigInteger.valueOf(1103515245)).add(BigInteger.valueOf(12345));
+                z = z.mod(BigInteger.TWO.pow(31));
                 other.play(z.shiftRight(16).intValue() % other.moves());
             }
             board.draw(seed, 6);

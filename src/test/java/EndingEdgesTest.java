@@ -1,14 +1,5 @@
-import java.util.NoSuchElementException;
-
 /** One test for each sentence that names a boundary case of tables, and of what is sound. */
-public final class EndingEdgesTest {
-    private static final Class<IllegalArgumentException> ARGUMENT = IllegalArgumentException.class;
-    private static final Class<IllegalStateException> STATE = IllegalStateException.class;
-    private static final Class<NoSuchElementException> NONE = NoSuchElementException.class;
-    private static final Class<UnsupportedOperationException> UNSUPPORTED = UnsupportedOperationException.class;
-    private static final int LEAST = Integer.MIN_VALUE;
-    private static final int GREATEST = Integer.MAX_VALUE;
-
+public final class EndingEdgesTest extends Edges {
     public static void main(String[] args) {
         Check.all(EndingEdgesTest.class);
     }
@@ -239,11 +230,13 @@ public final class EndingEdgesTest {
         Check.same("the side that does not move counts as one that moved", 'l', board.value());
     }
 
+    /** "Throws IllegalStateException if there is no table", ahead of the other one. */
     static void promise32DistanceWithoutATable() {
         Check.refuses("a position", STATE, () -> Boards.of(4, "m7 M1"), Huffboard::distance);
         Check.refuses("nothing there", STATE, Huffboard::new, Huffboard::distance);
     }
 
+    /** "Throws NoSuchElementException if the position is not in it": no pieces, or more than it has. */
     static void promise32DistanceOfAPositionThatIsNotInTheTable() {
         Check.refuses("nothing there", NONE, () -> solved(4, "", "", 3), Huffboard::distance);
         Check.refuses("one more than 1", NONE, () -> solved(4, "", "m7 M1", 1), Huffboard::distance);

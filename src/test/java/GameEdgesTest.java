@@ -1,28 +1,7 @@
-import java.util.NoSuchElementException;
-
-/** One test for each sentence that names a boundary case of a game: what is played, huffed and taken back, how it ends. */
-public final class GameEdgesTest {
-    private static final Class<IllegalStateException> STATE = IllegalStateException.class;
-    private static final Class<IndexOutOfBoundsException> INDEX = IndexOutOfBoundsException.class;
-    private static final Class<UnsupportedOperationException> UNSUPPORTED = UnsupportedOperationException.class;
-    private static final Class<NoSuchElementException> NONE = NoSuchElementException.class;
-    private static final int LEAST = Integer.MIN_VALUE;
-    private static final int GREATEST = Integer.MAX_VALUE;
-    /** As many moves as are kept. */
-    private static final int MOST = 120;
-
+/** One test for each sentence that names a boundary case of a game: playing, huffing, taking back, how it ends. */
+public final class GameEdgesTest extends Edges {
     public static void main(String[] args) {
         Check.all(GameEdgesTest.class);
-    }
-
-    private static Huffboard full() {
-        return Boards.toAndFro("", MOST);
-    }
-
-    private static Huffboard turned(int rows, String laws, String pieces) {
-        Huffboard board = Boards.of(rows, laws, pieces);
-        board.turn(1);
-        return board;
     }
 
     // Promise 18
@@ -47,28 +26,24 @@ public final class GameEdgesTest {
     static void promise18PlayHasNoMoveAsTheGameIsOver() {
         Check.refuses("nothing there", INDEX, Huffboard::new, board -> board.play(0));
         Check.refuses("drawn", INDEX, () -> Boards.toAndFro("9=3", 3), board -> board.play(0));
-        Check.refuses("law 8", INDEX, () -> {
-            Huffboard board = Boards.of(6, "8=1", "m3 M5");
-            board.play(0);
-            return board;
-        }, board -> board.play(0));
+        Check.refuses("law 8", INDEX, Edges::wonByLaw8, board -> board.play(0));
     }
 
     /** "at most 120 are kept"; "Throws IllegalStateException if 120 are kept". */
     static void promise18PlayKeeps120() {
-        Huffboard board = Boards.toAndFro("", MOST - 1);
+        Huffboard board = Boards.toAndFro("", MOST_KEPT - 1);
         Check.same("the last one that is kept", 'p', board.play(0));
-        Check.same("how many", MOST, board.played());
-        Check.refuses("one more", STATE, GameEdgesTest::full, one -> one.play(0));
+        Check.same("how many", MOST_KEPT, board.played());
+        Check.refuses("one more", STATE, Edges::kept120, one -> one.play(0));
         board.back();
         Check.same("once more", 'p', board.play(0));
-        Check.same("how many again", MOST, board.played());
+        Check.same("how many again", MOST_KEPT, board.played());
     }
 
     /** "If several exceptions apply, the one that is listed first is thrown." */
     static void promise18PlayThrowsTheFirstOfSeveral() {
-        Check.refuses("no such move, 120 kept", INDEX, GameEdgesTest::full, board -> board.play(1));
-        Check.refuses("no such move -1, 120 kept", INDEX, GameEdgesTest::full, board -> board.play(-1));
+        Check.refuses("no such move, 120 kept", INDEX, Edges::kept120, board -> board.play(1));
+        Check.refuses("no such move -1, 120 kept", INDEX, Edges::kept120, board -> board.play(-1));
         Check.refuses("over, 120 kept", INDEX, () -> Boards.toAndFro("9=99 10=0", 99), board -> board.play(0));
     }
 
@@ -109,17 +84,17 @@ public final class GameEdgesTest {
 
     /** "Throws IllegalStateException if 120 are kept". */
     static void promise20MoveKeeps120() {
-        Check.refuses("one more", STATE, GameEdgesTest::full, board -> board.move(15, 12));
-        Huffboard board = Boards.toAndFro("", MOST - 1);
+        Check.refuses("one more", STATE, Edges::kept120, board -> board.move(15, 12));
+        Huffboard board = Boards.toAndFro("", MOST_KEPT - 1);
         Check.same("the last one that is kept", 'p', board.move(5, 2));
-        Check.same("how many", MOST, board.played());
+        Check.same("how many", MOST_KEPT, board.played());
     }
 
     /** "If several exceptions apply, the one that is listed first is thrown." */
     static void promise20MoveThrowsTheFirstOfSeveral() {
-        Check.refuses("no field, 120 kept", INDEX, GameEdgesTest::full, board -> board.move(15, 18));
+        Check.refuses("no field, 120 kept", INDEX, Edges::kept120, board -> board.move(15, 18));
         Check.refuses("no field, none", INDEX, Boards::set, board -> board.move(-1, 0));
-        Check.refusesMove("none, 120 kept", 'n', GameEdgesTest::full, 15, 9);
+        Check.refusesMove("none, 120 kept", 'n', Edges::kept120, 15, 9);
     }
 
     /** "Returns the state then": each of the four. */
@@ -142,7 +117,7 @@ public final class GameEdgesTest {
         Check.same("no such field", "NoSuchElementException", Boards.answer(board::why));
         Boards.answer(() -> board.play(99));
         Check.same("no such index", "NoSuchElementException", Boards.answer(board::why));
-        Huffboard full = full();
+        Huffboard full = kept120();
         Boards.answer(() -> full.move(15, 12));
         Check.same("120 are kept", "NoSuchElementException", Boards.answer(full::why));
     }
@@ -192,11 +167,7 @@ public final class GameEdgesTest {
         Check.refusesMove("drawn, no such move", 'o', () -> Boards.of(6, "10=1", "m13"), 0, 17);
         Check.refusesMove("drawn, one must capture", 'o', () -> Boards.of(6, "10=1", "m13 M10"), 13, 11);
         Check.refusesMove("drawn, several", 'o', () -> Boards.of(6, "10=1", "m16 M6 M7 M12 M13"), 16, 4);
-        Check.refusesMove("won by law 8", 'o', () -> {
-            Huffboard board = Boards.of(6, "8=1", "m3 M5");
-            board.play(0);
-            return board;
-        }, 5, 7);
+        Check.refusesMove("won by law 8", 'o', Edges::wonByLaw8, 5, 7);
     }
 
     /** "Returns why the last move by two fields was not played": the last one that was not. */
@@ -349,7 +320,7 @@ public final class GameEdgesTest {
         Huffboard most = Boards.of(6, "6=0 2=1", "m14 M11 m15 M12 M6 m17");
         most.move(17, 13);
         Check.same("law 2, how many", 1, most.huffs());
-        Check.same("law 2, one that it leaves out", "UnsupportedOperationException", Boards.answer(() -> most.huff(14)));
+        Check.same("law 2, left out", "UnsupportedOperationException", Boards.answer(() -> most.huff(14)));
         Check.same("law 2, the other one", 'p', most.huff(15));
         Huffboard kings = Boards.of(6, "6=0 3=1", "k2 M5 m15 M12 m17");
         kings.move(17, 14);
@@ -378,6 +349,11 @@ public final class GameEdgesTest {
         board.move(13, 11);
         Check.same("it stands again", 'm', board.at(11));
         Check.same("it can be huffed again", 'p', board.huff(11));
+        Huffboard other = Boards.of(6, "6=0", "m12 m13 M10 M0");
+        other.move(12, 9);
+        other.huff(13);
+        other.back();
+        Check.same("one that did not move is there, too", "M---------M-mm----", Boards.pieces(other));
     }
 
     /** "the position is then there in place of that behind the move". */
@@ -427,12 +403,12 @@ public final class GameEdgesTest {
 
     /** The last move that is kept can be huffed for as well as the first one. */
     static void promise22HuffBehindTheLastMoveThatIsKept() {
-        Huffboard board = Boards.toAndFro("6=0", "k15 K2 M4 m7", MOST);
+        Huffboard board = Boards.toAndFro("6=0", "k15 K2 M4 m7", MOST_KEPT);
         Check.same("two could be", 2, board.huffs());
         Check.same("one is", 'p', board.huff(4));
         Check.same("none any more", 0, board.huffs());
-        Check.same("played", MOST, board.played());
-        Check.same("kept", MOST - 1, board.back());
+        Check.same("played", MOST_KEPT, board.played());
+        Check.same("kept", MOST_KEPT - 1, board.back());
         Check.same("it is there again", 'M', board.at(4));
         Check.same("who left a capture, too", 1, board.huffs());
     }
@@ -446,6 +422,9 @@ public final class GameEdgesTest {
         Huffboard two = Boards.of(6, "6=0", "m12 m13 M10 M0");
         two.move(12, 9);
         Check.same("two", 2, two.huffs());
+        Huffboard over = Boards.of(6, "6=0", "m13 m15 m16 M12");
+        over.move(13, 10);
+        Check.same("none as the game is over, though two could have", 0, over.huffs());
         Huffboard ways = Boards.of(6, "6=0", "m16 M12 M13 k0");
         ways.move(0, 3);
         Check.same("one that could in two ways", 1, ways.huffs());
@@ -466,8 +445,8 @@ public final class GameEdgesTest {
 
     /** "Returns how many are kept then": from 119 down to 0. */
     static void promise24BackFrom120ToNone() {
-        Huffboard board = full();
-        for (int left = MOST - 1; left >= 0; left--) {
+        Huffboard board = kept120();
+        for (int left = MOST_KEPT - 1; left >= 0; left--) {
             Check.same("left", left, board.back());
         }
         Check.same("as it was", Boards.whole(Boards.of(6, "k15 K2")), Boards.whole(board));
@@ -527,12 +506,12 @@ public final class GameEdgesTest {
     static void promise25PlayedFromNoneTo120() {
         Check.same("a new board", 0, new Huffboard().played());
         Check.same("one", 1, Boards.toAndFro("", 1).played());
-        Check.same("almost all", MOST - 1, Boards.toAndFro("", MOST - 1).played());
-        Check.same("all", MOST, full().played());
+        Check.same("almost all", MOST_KEPT - 1, Boards.toAndFro("", MOST_KEPT - 1).played());
+        Check.same("all", MOST_KEPT, kept120().played());
         Check.same("huffing is none", 1, huffed().played());
-        Huffboard board = full();
+        Huffboard board = kept120();
         Boards.answer(() -> board.play(0));
-        Check.same("no more", MOST, board.played());
+        Check.same("no more", MOST_KEPT, board.played());
     }
 
     // Promise 26
@@ -569,6 +548,8 @@ public final class GameEdgesTest {
         Check.same("a capture alone, up and right", 'p', Boards.of(6, "m9 M6").state());
         Check.same("a capture alone, up and left", 'p', Boards.of(6, "m8 M5").state());
         Check.same("and no field behind", '1', Boards.of(6, "m5 M1 M2").state());
+        Check.same("and none that is empty", '1', Boards.of(6, "m7 M4 M0 M5 M2").state());
+        Check.same("and none that is empty, law 4", '1', Boards.of(6, "4=1", "m7 M4 M0 M5 M2").state());
     }
 
     /** "by law 8, if the side that moved last has a king, it wins, not ahead of the first move". */
@@ -619,8 +600,8 @@ public final class GameEdgesTest {
 
     /** "0 never", for both. */
     static void promise26StateIsNeverDrawnByLaws9And10Being0() {
-        Check.same("120 moves", 'p', full().state());
-        Check.same("120 moves, law 9 alone is 0", 'p', Boards.toAndFro("9=0", MOST).state());
+        Check.same("120 moves", 'p', kept120().state());
+        Check.same("120 moves, law 9 alone is 0", 'p', Boards.toAndFro("9=0", MOST_KEPT).state());
         Check.same("98 of 99 moves, law 10 is 0", 'p', Boards.toAndFro("9=99 10=0", 98).state());
         Check.same("8 moves, law 10 is 5, law 9 is 0", 'p', Boards.toAndFro("9=0 10=5", 8).state());
     }
@@ -640,12 +621,12 @@ public final class GameEdgesTest {
     static void promise27CalmFromNoneTo120() {
         Check.same("a new board", 0, new Huffboard().calm());
         Check.same("ahead of the first move", 0, Boards.of(6, "k15 K2").calm());
-        for (int moves : new int[] {1, 2, 3, 60, MOST - 1, MOST}) {
+        for (int moves : new int[] {1, 2, 3, 60, MOST_KEPT - 1, MOST_KEPT}) {
             Check.same("moves of both sides", moves, Boards.toAndFro("", moves).calm());
         }
-        Huffboard board = full();
+        Huffboard board = kept120();
         board.back();
-        Check.same("taken back", MOST - 1, board.calm());
+        Check.same("taken back", MOST_KEPT - 1, board.calm());
     }
 
     /** "by kings": not by men, nor by one that becomes a king. */
@@ -696,8 +677,8 @@ public final class GameEdgesTest {
         Check.same("behind three", 1, Boards.toAndFro("", 3).seen());
         Check.same("behind four", 2, Boards.toAndFro("", 4).seen());
         Check.same("behind five", 2, Boards.toAndFro("", 5).seen());
-        Check.same("behind 119", 30, Boards.toAndFro("", MOST - 1).seen());
-        Huffboard board = full();
+        Check.same("behind 119", 30, Boards.toAndFro("", MOST_KEPT - 1).seen());
+        Huffboard board = kept120();
         Check.same("behind 120", 31, board.seen());
         board.back();
         board.back();
@@ -723,6 +704,19 @@ public final class GameEdgesTest {
             again.back();
         }
         Check.same("all taken back", 1, again.seen());
+    }
+
+    /** "the position": a king is not the man that stood there. */
+    static void promise28SeenWithMenAndKings() {
+        Huffboard board = Boards.of(6, "m3 K2");
+        int[] moves = {3, 0, 2, 5, 0, 3, 5, 2};
+        for (int kings = 0; kings < 3; kings++) {
+            Check.same("with a man, or as often with a king", Math.max(1, kings), board.seen());
+            for (int i = 0; i < moves.length; i += 2) {
+                board.move(moves[i], moves[i + 1]);
+            }
+        }
+        Check.same("three times with a king", 3, board.seen());
     }
 
     /** "with who moves". */

@@ -1,9 +1,5 @@
 /** One test for each sentence that names a boundary case of the moves, and of what is asked and told of them. */
-public final class MovesEdgesTest {
-    private static final Class<IndexOutOfBoundsException> INDEX = IndexOutOfBoundsException.class;
-    private static final int LEAST = Integer.MIN_VALUE;
-    private static final int GREATEST = Integer.MAX_VALUE;
-
+public final class MovesEdgesTest extends Edges {
     public static void main(String[] args) {
         Check.all(MovesEdgesTest.class);
     }
@@ -11,12 +7,6 @@ public final class MovesEdgesTest {
     private static void are(String what, String due, Huffboard board) {
         Check.same(what, due, Boards.moves(board));
         Check.same(what + ", how many", due.isEmpty() ? 0 : due.split(" ").length, board.moves());
-    }
-
-    private static Huffboard turned(int rows, String laws, String pieces) {
-        Huffboard board = Boards.of(rows, laws, pieces);
-        board.turn(1);
-        return board;
     }
 
     // Promise 12: how many there are
@@ -292,7 +282,7 @@ public final class MovesEdgesTest {
 
     // Promises 13 to 17: what is asked of a move
 
-    /** "Throws IndexOutOfBoundsException if there is no such move": the first and the last one, and those beyond. */
+    /** Each index of the moves that there are must be taken, the first ones beyond them refused. */
     private static void indexes(String what, Check.Maker maker, Call call) {
         int moves = maker.make().moves();
         for (int move : new int[] {-1, moves, LEAST, GREATEST}) {
@@ -313,16 +303,10 @@ public final class MovesEdgesTest {
         indexes(what + " set", Boards::set, call);
         indexes(what + " begun", Boards::begun, call);
         indexes(what + " nothing there", Huffboard::new, call);
-        indexes(what + " over", MovesEdgesTest::over, call);
+        indexes(what + " over", Edges::wonByLaw8, call);
     }
 
-    /** A game that is over, though pieces of the side that should move could. */
-    private static Huffboard over() {
-        Huffboard board = Boards.of(6, "8=1", "m3 M5");
-        board.play(0);
-        return board;
-    }
-
+    /** "Throws IndexOutOfBoundsException if there is no such move". */
     static void promise13FromTakesTheMovesThatThereAre() {
         indexesOfAllBoards("from", Huffboard::from);
         Huffboard board = Boards.of(6, "m3 m13");
@@ -332,6 +316,7 @@ public final class MovesEdgesTest {
         Check.same("the least field", 0, Boards.of(8, "k0").from(0));
     }
 
+    /** "Throws IndexOutOfBoundsException if there is no such move". */
     static void promise14ToTakesTheMovesThatThereAre() {
         indexesOfAllBoards("to", Huffboard::to);
         Huffboard board = Boards.of(6, "m3 m13");
@@ -340,6 +325,7 @@ public final class MovesEdgesTest {
         Check.same("the greatest field", 31, Boards.of(8, "k27").to(1));
     }
 
+    /** "Throws IndexOutOfBoundsException if there is no such move". */
     static void promise15CapturedTakesTheMovesThatThereAre() {
         indexesOfAllBoards("captured", Huffboard::captured);
         Check.same("none", 0, Boards.of(6, "m13").captured(0));
@@ -347,6 +333,7 @@ public final class MovesEdgesTest {
         Check.same("nine", 9, Boards.of(8, "2=1", "k24 M5 M6 M7 M13 M14 M15 M21 M22 M23").captured(0));
     }
 
+    /** "Throws IndexOutOfBoundsException if there is no such move". */
     static void promise16CapturesTakesTheMovesThatThereAre() {
         indexesOfAllBoards("captures", (board, move) -> board.captures(move, 0));
     }
@@ -381,6 +368,10 @@ public final class MovesEdgesTest {
         Check.yes("a capture to the last row", Boards.of(6, "m6 M4").crowns(0));
         Check.no("a capture to the row behind it", Boards.of(6, "m9 M6").crowns(0));
         Check.no("a king by a capture", Boards.of(6, "k6 M4").crowns(0));
+        Huffboard board = Boards.of(6, "m3 M14");
+        board.play(0);
+        board.play(0);
+        Check.same("what they are then", "k----------------K", Boards.pieces(board));
     }
 
     /** "5 ... 0 it goes on as a man, and is a king if it ends there, 1 it is a king at once, 2 the move ends there". */
@@ -420,9 +411,12 @@ public final class MovesEdgesTest {
         Check.same("none", 0, several.told(16, 9));
         Check.same("none the other way", 0, several.told(4, 16));
         Check.same("one round", 1, Boards.of(6, "k16 M6 M7 M12 M13").told(16, 16));
-        Check.same("none, one must capture", 0, Boards.of(6, "m13 M10").told(13, 11));
+        Huffboard refused = Boards.of(6, "m13 M10");
+        Check.same("none, one must capture", 0, refused.told(13, 11));
+        Boards.answer(() -> refused.move(13, 11));
+        Check.same("none behind a refusal, either", 0, refused.told(13, 11));
         Check.same("none on the empty board", 0, new Huffboard().told(0, 3));
-        Check.same("none as the game is over", 0, over().told(5, 7));
+        Check.same("none as the game is over", 0, wonByLaw8().told(5, 7));
         Check.same("none as it is drawn", 0, Boards.of(6, "10=1", "m13").told(13, 10));
     }
 }

@@ -1,11 +1,5 @@
-import java.util.NoSuchElementException;
-
-/** One test for each sentence that names a boundary case of lines, proofs, keys, duals and the moves behind the moves. */
-public final class SearchEdgesTest {
-    private static final Class<IllegalArgumentException> ARGUMENT = IllegalArgumentException.class;
-    private static final Class<NoSuchElementException> NONE = NoSuchElementException.class;
-    private static final int LEAST = Integer.MIN_VALUE;
-    private static final int GREATEST = Integer.MAX_VALUE;
+/** One test for each sentence that names a boundary case of lines, proofs, keys, duals and the mean of moves. */
+public final class SearchEdgesTest extends Edges {
     /** As many moves as can be proved. */
     private static final int MOST = 6;
 
@@ -77,16 +71,11 @@ public final class SearchEdgesTest {
 
     /** "Throws ArithmeticException if there are none". */
     static void promise47MeanMovesOfNone() {
-        Class<ArithmeticException> due = ArithmeticException.class;
-        Check.refuses("nothing there", due, Huffboard::new, Huffboard::meanMoves);
-        Check.refuses("over", due, () -> Boards.of(6, "m9 M6 M4"), Huffboard::meanMoves);
-        Check.refuses("drawn by law 10", due, () -> Boards.of(6, "10=1", "m13 M4"), Huffboard::meanMoves);
-        Check.refuses("drawn by law 9", due, () -> Boards.toAndFro("9=1", 1), Huffboard::meanMoves);
-        Check.refuses("won by law 8", due, () -> {
-            Huffboard board = Boards.of(6, "8=1", "m3 M5");
-            board.play(0);
-            return board;
-        }, Huffboard::meanMoves);
+        Check.refuses("nothing there", ARITHMETIC, Huffboard::new, Huffboard::meanMoves);
+        Check.refuses("over", ARITHMETIC, () -> Boards.of(6, "m9 M6 M4"), Huffboard::meanMoves);
+        Check.refuses("drawn by law 10", ARITHMETIC, () -> Boards.of(6, "10=1", "m13 M4"), Huffboard::meanMoves);
+        Check.refuses("drawn by law 9", ARITHMETIC, () -> Boards.toAndFro("9=1", 1), Huffboard::meanMoves);
+        Check.refuses("won by law 8", ARITHMETIC, Edges::wonByLaw8, Huffboard::meanMoves);
     }
 
     /** "Returns the sum divided by their number, both converted to double." */
@@ -157,6 +146,12 @@ public final class SearchEdgesTest {
         Check.same("4 by laws 7 and 8", "0000111", proofs(Boards.of(5, "7=1 8=1", "m10 M1")));
         Check.same("5 by laws 7 and 8", "0000011", proofs(Boards.of(5, "7=1 8=1", "m9 M2")));
         Check.same("never", "0000000", proofs(Boards.of(4, "k7 K0")));
+    }
+
+    /** By law 7 it is no win to leave the other one no move. */
+    static void promise36ProvesNoWinByLaw7BehindTheLastCapture() {
+        Check.same("it must capture the last piece", "0000000", proofs(Boards.of(6, "7=1", "m13 M10")));
+        Check.same("the last piece captures it", "0011111", proofs(Boards.of(6, "7=1", "m13 M6")));
     }
 
     /** "whatever the other one does": one answer that holds is enough against it. */
@@ -368,7 +363,8 @@ public final class SearchEdgesTest {
     static void promise39DualsUntilItIsWon() {
         Check.same("the own move ends it", "111111", duals(Boards.of(6, "k10")));
         Check.same("by law 7 the answer ends it", 0, Boards.of(6, "7=1", "m13 M6").duals(2));
-        Check.same("by law 7 with moves to spare", 0, Boards.of(5, "7=1", "k11 K6").duals(3));
+        Check.same("by law 7 with moves to spare", "-00000", duals(Boards.of(6, "7=1", "m13 M6")));
+        Check.same("by law 7 behind two keys", "-00111", duals(Boards.of(5, "7=1", "k11 K6")));
         Check.same("by law 8 the crowning ends it", "--1111", duals(Boards.of(5, "8=1", "m5 M6")));
     }
 
