@@ -119,19 +119,7 @@ public final class BookEdgesTest extends Edges {
                 one -> one.draw(1, told));
         }
         Check.same("none, 120 are kept", 0, kept120().draw(1, 0));
-        Check.refuses("those told, as the game is over", STATE, BookEdgesTest::drawnAt120, board -> board.draw(1, 1));
-    }
-
-    /** A game that is drawn by law 9 just as 120 moves are kept. */
-    private static Huffboard drawnAt120() {
-        Huffboard board = Boards.toAndFro("9=99", "k15 K2 m17", 20);
-        board.move(17, 14);
-        int[] from = {2, 15, 5, 12};
-        int[] to = {5, 12, 2, 15};
-        for (int i = 0; i < 99; i++) {
-            board.move(from[i % 4], to[i % 4]);
-        }
-        return board;
+        Check.refuses("those told, as the game is over", STATE, Edges::drawnAt120, board -> board.draw(1, 1));
     }
 
     /** "If several exceptions apply, the one that is listed first is thrown." */

@@ -39,4 +39,16 @@ abstract class Edges {
     static Huffboard kept120() {
         return Boards.toAndFro("", MOST_KEPT);
     }
+
+    /** A game that is drawn by law 9 just as 120 moves are kept. */
+    static Huffboard drawnAt120() {
+        Huffboard board = Boards.toAndFro("9=99", "k15 K2 m17", 20);
+        board.move(17, 14);
+        int[] from = {2, 15, 5, 12};
+        int[] to = {5, 12, 2, 15};
+        for (int i = 0; i < 99; i++) {
+            board.move(from[i % 4], to[i % 4]);
+        }
+        return board;
+    }
 }

@@ -44,7 +44,7 @@ public final class GameEdgesTest extends Edges {
     static void promise18PlayThrowsTheFirstOfSeveral() {
         Check.refuses("no such move, 120 kept", INDEX, Edges::kept120, board -> board.play(1));
         Check.refuses("no such move -1, 120 kept", INDEX, Edges::kept120, board -> board.play(-1));
-        Check.refuses("over, 120 kept", INDEX, () -> Boards.toAndFro("9=99 10=0", 99), board -> board.play(0));
+        Check.refuses("over, 120 kept", INDEX, Edges::drawnAt120, board -> board.play(0));
     }
 
     /** "Returns the state then": each of the four. */
@@ -95,6 +95,7 @@ public final class GameEdgesTest extends Edges {
         Check.refuses("no field, 120 kept", INDEX, Edges::kept120, board -> board.move(15, 18));
         Check.refuses("no field, none", INDEX, Boards::set, board -> board.move(-1, 0));
         Check.refusesMove("none, 120 kept", 'n', Edges::kept120, 15, 9);
+        Check.refusesMove("over, 120 kept", 'o', Edges::drawnAt120, 15, 12);
     }
 
     /** "Returns the state then": each of the four. */
