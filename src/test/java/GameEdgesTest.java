@@ -431,6 +431,19 @@ public final class GameEdgesTest extends Edges {
         Check.same("one that could in two ways", 1, ways.huffs());
     }
 
+    /** "though captures were allowed": those of the position ahead of the move, not of others that were asked. */
+    static void promise23HuffsOfThePositionAheadOfTheMove() {
+        Huffboard board = Boards.of(6, "6=0", "m13 M10 k0");
+        Check.same("one could capture", 4, board.moves());
+        board.put(13, '-');
+        board.play(0);
+        Check.same("it was taken off ahead of the move", 0, board.huffs());
+        Huffboard other = Boards.of(6, "6=0", "m13 M6 M9");
+        other.move(13, 10);
+        Check.yes("the other side can capture", other.captures(0, 10));
+        Check.same("that is not for huffing", 0, other.huffs());
+    }
+
     // Promises 24 and 25
 
     /** "Throws NoSuchElementException if there is none": at first, and as all are taken back. */

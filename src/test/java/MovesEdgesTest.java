@@ -71,6 +71,20 @@ public final class MovesEdgesTest extends Edges {
         Check.same("lines of two", oracle.lines(2), board.lines(2));
     }
 
+    /** They are those of the position as it is: nothing is left of more moves that there were before. */
+    static void promise12MovesAreThoseThatThereAreNow() {
+        Huffboard most = Boards.of(8, "m19 K15 m28 M24 M17");
+        are("two", "19>10x15 28>14x17,24", most);
+        most.put(28, '-');
+        most.law(2, 1);
+        are("one, law 2", "19>10x15", most);
+        Huffboard kings = Boards.of(6, "m6 M4 k17 M13");
+        are("two, one of them by a king", "6>1x4+ 17>10x13", kings);
+        kings.put(13, '-');
+        kings.law(3, 1);
+        are("one by a man, law 3", "6>1x4+", kings);
+    }
+
     // Promise 12: moves without a capture
 
     /** "a man goes by one field forward": not by two, not back, not over the edge, not to a field that is taken. */
