@@ -635,7 +635,7 @@ public final class BoardEdgesTest extends Edges {
         Check.same("all but one", 31.0f / 32.0f, board.crownShare());
     }
 
-    /** "The side at first, then for each field ... 31 times itself plus 0 for none, 1 m, 2 k, 3 M, 4 K." */
+    /** "Returns the side at first, then for each field ... 31 times itself plus 0 for none, 1 m, 2 k, 3 M, 4 K." */
     static void promise48ChecksumOfTheEmptyBoard() {
         Huffboard board = ofRows(4);
         Check.same("the side 0", 0L, board.checksum());

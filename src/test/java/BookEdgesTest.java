@@ -131,7 +131,7 @@ public final class BookEdgesTest extends Edges {
         Check.refuses("seed -1, 120 kept", ARGUMENT, Edges::kept120, board -> board.draw(-1, 1));
     }
 
-    /** "z ... becomes z times 1103515245, plus 12345, modulo 2147483648; z divided by 65536, cut, modulo how many". */
+    /** "becomes z times 1103515245, plus 12345, modulo 2147483648; z divided by 65536, cut, modulo how many". */
     static void promise42DrawGoesByTheLots() {
         for (int seed : new int[] {0, 1, 65535, 65536, 99998, 99999}) {
             Huffboard board = filled();
@@ -324,7 +324,7 @@ public final class BookEdgesTest extends Edges {
         Check.same("not lost ahead of it", 1, board.refuted());
     }
 
-    /** "a book [is] gone" as the board is laid: none of its claims counts any more. */
+    /** The book is gone as the board is laid: none of its claims counts any more. */
     static void promise44RefutedIsNoneOnANewBoard() {
         for (char value : "wld".toCharArray()) {
             Huffboard board = Boards.of(4, "m7 M1");

@@ -1,5 +1,6 @@
 import java.lang.reflect.InvocationTargetException;
 import java.lang.reflect.Method;
+import java.lang.reflect.Modifier;
 import java.util.Comparator;
 import java.util.Map;
 import java.util.TreeMap;
@@ -71,11 +72,11 @@ public final class Check {
         same(what + ": what it leaves", due.substring(due.indexOf(',')), left.substring(left.indexOf(',')));
     }
 
-    /** Runs all tests of a class: its methods that are named after a promise. */
+    /** Runs all tests of a class: its methods that take nothing and are not private. */
     static void all(Class<?> tests) {
         Map<String, Method> found = new TreeMap<>(Comparator.comparingInt(Check::promise).thenComparing(name -> name));
         for (Method method : tests.getDeclaredMethods()) {
-            if (promise(method.getName()) > 0) {
+            if (method.getParameterCount() == 0 && !Modifier.isPrivate(method.getModifiers())) {
                 found.put(method.getName(), method);
             }
         }
@@ -84,7 +85,7 @@ public final class Check {
         end();
     }
 
-    /** The number of the promise that a test is named after, 0 if it is no test. */
+    /** The number of the promise that a test is named after, 0 if it is named after none. */
     static int promise(String name) {
         String number = name.replaceAll("^promise(\\d+)[A-Z].*", "$1");
         return number.equals(name) ? 0 : Integer.parseInt(number);

@@ -79,7 +79,7 @@ public final class EndingEdgesTest extends Edges {
         Check.same("5 rows", 2 * (8 * 4 + 4 * 3), Boards.of(5, "").solve(1));
     }
 
-    /** "the laws 9 and 10 ... aside". */
+    /** "the laws 9 and 10 and huffing aside": draws. */
     static void promise30SolveLeavesDrawsAside() {
         String due = counts(solved(4, "", "", 3));
         Check.same("law 9", due, counts(solved(4, "9=1", "", 3)));

@@ -22,7 +22,7 @@ public final class GameEdgesTest extends Edges {
         }
     }
 
-    /** "moves(), 0 if the game is over": then there is no move 0. */
+    /** moves() is 0 if the game is over: then there is no move 0. */
     static void promise18PlayHasNoMoveAsTheGameIsOver() {
         Check.refuses("nothing there", INDEX, Huffboard::new, board -> board.play(0));
         Check.refuses("drawn", INDEX, () -> Boards.toAndFro("9=3", 3), board -> board.play(0));
@@ -612,7 +612,7 @@ public final class GameEdgesTest extends Edges {
         }
     }
 
-    /** "0 never", for both. */
+    /** "the game is drawn, 0 never"; "must be there for a draw, 0 never". */
     static void promise26StateIsNeverDrawnByLaws9And10Being0() {
         Check.same("120 moves", 'p', kept120().state());
         Check.same("120 moves, law 9 alone is 0", 'p', Boards.toAndFro("9=0", MOST_KEPT).state());

@@ -192,13 +192,13 @@ public final class MovesEdgesTest extends Edges {
         }
     }
 
-    /** "By law 4 being 0 captured pieces stand until the end, and nobody can go over ... them". */
+    /** "By law 4 being 0 captured pieces stand until the end, and nobody can go over or to them": not over. */
     static void promise12MovesDoNotGoOverWhatWasCaptured() {
         are("law 4 is 0", "10>2x7 10>5x7 10>15x12", Boards.of(6, "1=1", "k10 K7 K12"));
         are("law 4 is 1", "10>2x7,12 10>5x7,12 10>15x7,12", Boards.of(6, "1=1 4=1", "k10 K7 K12"));
     }
 
-    /** "and nobody can go ... to them". */
+    /** "and nobody can go over or to them": not to. */
     static void promise12MovesDoNotEndWhereOneWasCaptured() {
         String pieces = "k28 M21 M9 M8 M16";
         are("law 4 is 0", "28>12x8,9,21", Boards.of(8, "1=1 2=1", pieces));
@@ -215,7 +215,7 @@ public final class MovesEdgesTest extends Edges {
         Check.same("where it ends", "----------------k-", Boards.pieces(board));
     }
 
-    /** "By law 5 being 2 a man that came to its last row does not go on"; 0 "it goes on as a man"; 1 "as" a king. */
+    /** "By law 5 being 2 a man that came to its last row does not go on"; by 0 and 1 it does, as a man and as a king. */
     static void promise12MovesGoOnFromTheLastRowByLaw5() {
         are("as a man forward alone, law 5 is 0", "6>1x4+", Boards.of(6, "m6 M4 M5"));
         are("as a man any way, law 5 is 0", "6>8x4,5", Boards.of(6, "0=1", "m6 M4 M5"));
@@ -388,7 +388,7 @@ public final class MovesEdgesTest extends Edges {
         Check.same("what they are then", "k----------------K", Boards.pieces(board));
     }
 
-    /** "5 ... 0 it goes on as a man, and is a king if it ends there, 1 it is a king at once, 2 the move ends there". */
+    /** "0 it goes on as a man, and is a king if it ends there, 1 it is a king at once ... 2 the move ends there". */
     static void promise17CrowningByACaptureGoesByLaw5() {
         Check.no("0, it does not end there", Boards.of(6, "0=1 5=0", "m6 M4 M5").crowns(0));
         Check.yes("0, it ends there", Boards.of(6, "5=0", "m6 M4 M5").crowns(0));

@@ -1,26 +1,23 @@
-import java.lang.reflect.InvocationTargetException;
-import java.lang.reflect.Method;
 import java.util.ArrayList;
-import java.util.HashMap;
 import java.util.List;
-import java.util.Map;
 import java.util.Random;
 
 /**
- * Long runs of calls by lot, the same for the class and for the Oracle: all answers must be alike.
+ * Runs of calls by lot, the same for the class and for the Oracle: all answers must be alike. Most are of one board
+ * and its game; of every sixth one, boards, laws, tables and games follow each other up to the 512th call.
  * Told a first seed and a number of runs, it makes those instead.
  */
 public final class OracleTest {
     private static final int RUNS = 1500;
     private static final int CALLS = 120;
+    private static final int LAST_CALL = 512;
+    private static final int LONG_ONES = 6;
     private static final String OFTEN = "play play play play move move move back huff huffs state moves told draw "
         + "put put proves keys keyAt duals sources meanMoves best value distance lines why calm seen ";
     private static final String AT_TIMES = "from to captured captures crowns at pieces side beside fields played "
         + "crownShare checksum count longest claim refuted law turn bar isSound solve ";
     private static final String SELDOM = "fill board unbar back";
     private static final String[] NAMES = (OFTEN + OFTEN + OFTEN + AT_TIMES + SELDOM).split(" ");
-    private static final Map<String, Method> BOARD = methods(Huffboard.class);
-    private static final Map<String, Method> ORACLE = methods(Oracle.class);
 
     private final Random lot;
     private final Huffboard board = new Huffboard();
@@ -32,12 +29,16 @@ public final class OracleTest {
         lot = new Random(seed);
     }
 
-    public static void main(String[] args) throws Exception {
+    public static void main(String[] args) {
         long first = args.length > 0 ? Long.parseLong(args[0]) : 1;
         int runs = args.length > 1 ? Integer.parseInt(args[1]) : RUNS;
         for (long seed = first; seed < first + runs; seed++) {
             OracleTest run = new OracleTest(seed);
-            run.play();
+            if (seed % LONG_ONES == 0) {
+                run.playToTheLastCall();
+            } else {
+                run.playOneGame();
+            }
             if (run.wrong != null) {
                 System.out.println("seed " + seed + ": " + run.wrong);
                 run.calls.forEach(call -> System.out.println("  " + call));
@@ -47,26 +48,59 @@ public final class OracleTest {
         System.out.println(runs + " runs are as the oracle says");
     }
 
-    private static Map<String, Method> methods(Class<?> kind) {
-        Map<String, Method> found = new HashMap<>();
-        for (Method method : kind.getMethods()) {
-            if (method.getDeclaringClass() == kind) {
-                found.put(method.getName(), method);
+    /** One board and its game; behind each call both must have the same position. */
+    private void playOneGame() {
+        make("board", rows());
+        setUp();
+        for (int i = 0; i < CALLS; i++) {
+            makeAny();
+            if (wrong == null && board.checksum() != oracle.checksum()) {
+                wrong = "the position is another one";
             }
         }
-        return found;
     }
 
-    private void play() throws Exception {
+    /** The position is not asked for behind each call, as that would be one of the 512, too. */
+    private void playToTheLastCall() {
         setUp();
-        for (int i = 0; i < CALLS && wrong == null; i++) {
-            String name = name();
-            make(name, arguments(name));
+        while (wrong == null && calls.size() < LAST_CALL) {
+            for (int i = 20 + lot.nextInt(60); i > 0; i--) {
+                makeAny();
+            }
+            if (lot.nextInt(3) > 0) {
+                make("board", rows());
+                setUp();
+            } else {
+                setUpAgain();
+            }
         }
     }
 
-    private void setUp() throws Exception {
-        make("board", lot.nextInt(10) < 6 ? 4 + lot.nextInt(2) : 4 + lot.nextInt(5));
+    private void makeAny() {
+        String name = name();
+        make(name, arguments(name));
+    }
+
+    private int rows() {
+        return lot.nextInt(10) < 6 ? 4 + lot.nextInt(2) : 4 + lot.nextInt(5);
+    }
+
+    /** Takes the game back, and changes a law and a few fields. */
+    private void setUpAgain() {
+        for (int left = oracle.played(); left > 0; left--) {
+            make("back");
+        }
+        make("law", number(0, 10), number(0, 2));
+        for (int i = lot.nextInt(4); i > 0; i--) {
+            make("put", field(), letter("mkMK--"));
+        }
+        make("claim", letter("wld"));
+        if (oracle.fields() < 13 && lot.nextBoolean()) {
+            make("solve", tableOf());
+        }
+    }
+
+    private void setUp() {
         for (int law = 0; law < 9; law++) {
             make("law", law, lot.nextInt(law == 2 || law == 5 ? 3 : 2));
         }
@@ -185,23 +219,17 @@ public final class OracleTest {
         return number == 3 && oracle.fields() == 12 && lot.nextInt(20) > 0 ? 2 : number;
     }
 
-    private void make(String name, Object... args) throws Exception {
+    /** Makes a call on both, if it is not beyond the last one and none was wrong before. */
+    private void make(String name, Object... args) {
+        if (calls.size() == LAST_CALL || wrong != null) {
+            return;
+        }
         String call = name + List.of(args);
         calls.add(call);
-        String got = answer(BOARD.get(name), board, args);
-        String due = answer(ORACLE.get(name), oracle, args);
+        String got = Calls.on(board, name, args);
+        String due = Calls.on(oracle, name, args);
         if (!got.equals(due)) {
             wrong = call + " answered " + got + ", due is " + due;
-        } else if (board.checksum() != oracle.checksum()) {
-            wrong = "behind " + call + " the position is another one";
-        }
-    }
-
-    private static String answer(Method method, Object object, Object... args) throws Exception {
-        try {
-            return String.valueOf(method.invoke(object, args));
-        } catch (InvocationTargetException e) {
-            return e.getCause().getClass().getSimpleName();
         }
     }
 }
