@@ -203,6 +203,11 @@ public final class MovesEdgesTest extends Edges {
         String pieces = "k28 M21 M9 M8 M16";
         are("law 4 is 0", "28>12x8,9,21", Boards.of(8, "1=1 2=1", pieces));
         are("law 4 is 1", "28>21x8,9,16,21 28>25x8,9,16,21 28>30x8,9,16,21", Boards.of(8, "1=1 2=1 4=1", pieces));
+        String beyond = "k30 K5 K6 K26 K17";
+        are("beyond another one, law 4 is 0", "30>0x5,26 30>12x5,6,26 30>22x5,6,17,26", Boards.of(8, "1=1", beyond));
+        are("beyond another one, law 4 is 1",
+            "30>0x5,26 30>12x5,6,26 30>22x5,6,17,26 30>26x5,6,17,26 30>31x5,6,17,26",
+            Boards.of(8, "1=1 4=1", beyond));
     }
 
     /** "the field from which the piece set out is empty meanwhile": it can end there, or go over it. */
