@@ -386,6 +386,20 @@ public final class EndingEdgesTest extends Edges {
         Check.same("won in 0 at most", 0, board.longest());
     }
 
+    /** "in the table": nothing is left of a greater one that there was before. */
+    static void promise34LongestOfTheTableThatThereIs() {
+        Huffboard board = Boards.of(5, "");
+        for (int most = 1; most <= 3; most++) {
+            board.board(5);
+            board.law(7, 0);
+            board.solve(most);
+            board.board(4);
+            board.law(7, 1);
+            board.solve(1);
+            Check.same("behind one of 5 rows, " + most, 0, board.longest());
+        }
+    }
+
     /** "Throws IllegalStateException if there is no table", ahead of the other one. */
     static void promise35BestWithoutATable() {
         Check.refuses("a position", STATE, () -> Boards.of(4, "m7 M1"), Huffboard::best);

@@ -220,7 +220,7 @@ public final class MovesEdgesTest extends Edges {
         Check.same("where it ends", "----------------k-", Boards.pieces(board));
     }
 
-    /** "By law 5 being 2 a man that came to its last row does not go on"; by 0 and 1 it does, as a man and as a king. */
+    /** "By law 5 being 2 a man that came to its last row does not go on"; by 0 and 1 it does, as a man, as a king. */
     static void promise12MovesGoOnFromTheLastRowByLaw5() {
         are("as a man forward alone, law 5 is 0", "6>1x4+", Boards.of(6, "m6 M4 M5"));
         are("as a man any way, law 5 is 0", "6>8x4,5", Boards.of(6, "0=1", "m6 M4 M5"));

@@ -328,6 +328,14 @@ public final class SearchEdgesTest extends Edges {
         Check.same("from the first move on", 1, board.duals(5));
     }
 
+    /** "by which the win takes longest": by laws 7 and 8 that can be one move more than none. */
+    static void promise39DualsBehindAnAnswerThatTakesOneMoveMore() {
+        Check.same("won already behind the first answer, in 1 behind the others", "--2222",
+            duals(Boards.of(5, "0=1 6=0 7=1 8=1", "m6 M5")));
+        Check.same("won in 1 behind the first answer, already behind the other one", "--2222",
+            duals(Boards.of(5, "1=1 6=0 7=1 8=1", "m6 M0")));
+    }
+
     /** "the first answer" of those that take as long. */
     static void promise39DualsBehindTheFirstOfTheLongestAnswers() {
         Huffboard board = Boards.of(5, "m3 k11 M6");

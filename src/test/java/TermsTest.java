@@ -491,7 +491,8 @@ public final class TermsTest extends Edges {
     /** Positions of which several are won in some moves, by the laws that stand with them. */
     private static final String[] WON = {"| m11 M3", "| k3 M0", "| k4 M1", "| k8 m10 M0", "| m3 k11 M6",
         "6=0 | k9 k8 M6 M7", "7=1 | m11 M1", "7=1 | k11 K6", "7=1 | m2 M7", "8=1 | m5 M6", "8=1 | m7 M1",
-        "7=1 8=1 | m9 M4", "7=1 8=1 | m10 M1", "1=1 | k4 M1", "| k10 K1"};
+        "7=1 8=1 | m9 M4", "7=1 8=1 | m10 M1", "1=1 | k4 M1", "| k10 K1",
+        "0=1 6=0 7=1 8=1 | m6 M5", "6=0 7=1 8=1 | m6 M0"};
 
     private static Huffboard won(String told) {
         String[] parts = told.split("\\| ");
@@ -515,7 +516,7 @@ public final class TermsTest extends Edges {
                 proved += due ? 1 : 0;
             }
         }
-        Check.same("how many are proved", 45, proved);
+        Check.same("how many are proved", 53, proved);
         Check.yes("won already", Boards.of(5, "7=1", "M3").proves(0));
     }
 
